@@ -12,13 +12,17 @@ public final class FaceMap {
 
     private final Pieces pieces;
     private final Nodes nodes;
+    private final Net net;
+    private final Sweep sweep;
     private final Faces faces;
     private boolean facesAreOld;
 
     public FaceMap() {
         pieces = new Pieces();
         nodes = new Nodes();
-        faces = new Faces(pieces, nodes);
+        net = new Net(pieces, nodes);
+        sweep = new Sweep(net);
+        faces = new Faces(net, sweep);
         facesAreOld = false;
     }
 
@@ -174,6 +178,8 @@ public final class FaceMap {
 
     private Faces freshFaces() {
         if (facesAreOld) {
+            net.build();
+            sweep.build();
             faces.build();
             facesAreOld = false;
         }
@@ -203,12 +209,18 @@ public final class FaceMap {
         }
 
         /** Above 0 if c lies to the left of the way from a to b, below 0 to the right, 0 in line. */
-        static int side(long a, long b, long c) {
-            long abx = x(b) - x(a);
-            long aby = y(b) - y(a);
-            long acx = x(c) - x(a);
-            long acy = y(c) - y(a);
-            return Long.compare(abx * acy, acx * aby);
+        static long side(long a, long b, long c) {
+            // Differences alone count, so the packed coordinates do as they are.
+            long ax = a >> Y_BITS;
+            long ay = a & Y_MASK;
+            return ((b >> Y_BITS) - ax) * ((c & Y_MASK) - ay) - ((c >> Y_BITS) - ax) * ((b & Y_MASK) - ay);
+        }
+
+        /** Whether the places c and d lie to unlike sides of the line through a and b, neither on it. */
+        static boolean divides(long a, long b, long c, long d) {
+            long sideOfC = side(a, b, c);
+            long sideOfD = side(a, b, d);
+            return sideOfC < 0 && sideOfD > 0 || sideOfC > 0 && sideOfD < 0;
         }
 
         /** Whether c lies on the piece from low to high, but not at an end; low is the lesser. */
@@ -224,8 +236,7 @@ public final class FaceMap {
             if (isInside(low2, high2, low1) || isInside(low2, high2, high1)) {
                 return true;
             }
-            return side(low1, high1, low2) * side(low1, high1, high2) < 0
-                && side(low2, high2, low1) * side(low2, high2, high1) < 0;
+            return divides(low1, high1, low2, high2) && divides(low2, high2, low1, high1);
         }
 
         /** The share of the way from a to b in the AREA2 of its ring. */
@@ -476,12 +487,6 @@ public final class FaceMap {
             int p = Way.pieceOf(way);
             return Way.isUp(way) ? highNode[p] : lowNode[p];
         }
-
-        long area(int way) {
-            int p = Way.pieceOf(way);
-            long up = Place.area(pieces.low[p], pieces.high[p]);
-            return Way.isUp(way) ? up : -up;
-        }
     }
 
     /**
@@ -580,7 +585,8 @@ public final class FaceMap {
             int to = size;
             while (from < to) {
                 int mid = (from + to) >>> 1;
-                if (net.pieces.isOver(p, Way.pieceOf(around[mid]))) {
+                int q = Way.pieceOf(around[mid]);
+                if (Place.side(net.pieces.low[q], net.pieces.high[q], net.pieces.high[p]) > 0) {
                     from = mid + 1;
                 } else {
                     to = mid;
@@ -624,10 +630,10 @@ public final class FaceMap {
         int size;
         int parts;
 
-        Faces(Pieces pieces, Nodes nodes) {
-            net = new Net(pieces, nodes);
-            sweep = new Sweep(net);
-            makeRows(pieces.room());
+        Faces(Net net, Sweep sweep) {
+            this.net = net;
+            this.sweep = sweep;
+            makeRows(net.pieces.room());
             clear();
         }
 
@@ -664,8 +670,6 @@ public final class FaceMap {
                 makeRows(net.pieces.room());
             }
             clear();
-            net.build();
-            sweep.build();
             // Going through the ways from the least one on, a ring is met first at its least way: so faces come in the
             // order of their keys, and what lies below the least node of a part has its face already.
             for (int n = 0; n < net.nodes.size; n++) {
@@ -701,7 +705,9 @@ public final class FaceMap {
             long sum = 0;
             int way = start;
             for (int i = 0; i < 2 * net.pieces.size; i++) {
-                sum += net.area(way);
+                int p = Way.pieceOf(way);
+                long up = Place.area(net.pieces.low[p], net.pieces.high[p]);
+                sum += Way.isUp(way) ? up : -up;
                 way = sweep.next[way];
                 if (way == start) {
                     break;
