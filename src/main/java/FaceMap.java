@@ -12,7 +12,6 @@ public final class FaceMap {
 
     private final Pieces pieces;
     private final Nodes nodes;
-    private final Net net;
     private final Sweep sweep;
     private final Faces faces;
     private boolean facesAreOld;
@@ -20,9 +19,8 @@ public final class FaceMap {
     public FaceMap() {
         pieces = new Pieces();
         nodes = new Nodes();
-        net = new Net(pieces, nodes);
-        sweep = new Sweep(net);
-        faces = new Faces(net, sweep);
+        sweep = new Sweep(pieces, nodes);
+        faces = new Faces(pieces, nodes, sweep);
         facesAreOld = false;
     }
 
@@ -178,7 +176,6 @@ public final class FaceMap {
 
     private Faces freshFaces() {
         if (facesAreOld) {
-            net.build();
             sweep.build();
             faces.build();
             facesAreOld = false;
@@ -432,63 +429,6 @@ public final class FaceMap {
         }
     }
 
-    /** Which pieces end at which node. */
-    private static final class Net {
-        final Pieces pieces;
-        final Nodes nodes;
-        int[] lowNode;
-        int[] highNode;
-        /** By node, and one row more: how many pieces have a lesser node before it. */
-        int[] firstUp;
-        /** By node, and one row more: where its pieces begin in downs. */
-        int[] firstDown;
-        /** The pieces by greater node, then by lesser one. */
-        int[] downs;
-
-        Net(Pieces pieces, Nodes nodes) {
-            this.pieces = pieces;
-            this.nodes = nodes;
-            makeRows(pieces.room());
-        }
-
-        private void makeRows(int room) {
-            lowNode = new int[room];
-            highNode = new int[room];
-            firstUp = new int[2 * room + 1];
-            firstDown = new int[2 * room + 1];
-            downs = new int[room];
-        }
-
-        void build() {
-            if (lowNode.length < pieces.room()) {
-                makeRows(pieces.room());
-            }
-            Arrays.fill(firstUp, 0);
-            Arrays.fill(firstDown, 0);
-            for (int p = 0; p < pieces.size; p++) {
-                lowNode[p] = nodes.rank(pieces.low[p]);
-                highNode[p] = nodes.rank(pieces.high[p]);
-                firstUp[lowNode[p]]++;
-                firstDown[highNode[p]]++;
-            }
-            for (int n = 1; n <= nodes.size; n++) {
-                firstUp[n] += firstUp[n - 1];
-                firstDown[n] += firstDown[n - 1];
-            }
-            // The sums are where each node's pieces end; counting back piece by piece makes them where they begin.
-            for (int p = pieces.size - 1; p >= 0; p--) {
-                firstUp[lowNode[p]]--;
-                firstDown[highNode[p]]--;
-                downs[firstDown[highNode[p]]] = p;
-            }
-        }
-
-        int to(int way) {
-            int p = Way.pieceOf(way);
-            return Way.isUp(way) ? highNode[p] : lowNode[p];
-        }
-    }
-
     /**
      * A line that goes over the nodes from the least to the greatest and keeps the pieces that it crosses, the lowest
      * first. From that order come the turns at each node and the piece right below it.
@@ -497,7 +437,10 @@ public final class FaceMap {
      * is one that goes up steeply.
      */
     private static final class Sweep {
-        final Net net;
+        final Pieces pieces;
+        final Nodes nodes;
+        /** How many pieces begin at nodes that the line has passed: the first ones, as pieces are sorted. */
+        int begun;
         /** The pieces that the line crosses, the lowest first. */
         int[] crossed;
         int crossedSize;
@@ -508,9 +451,10 @@ public final class FaceMap {
         /** By node: the piece right below it, or -1. */
         int[] below;
 
-        Sweep(Net net) {
-            this.net = net;
-            makeRows(net.pieces.room());
+        Sweep(Pieces pieces, Nodes nodes) {
+            this.pieces = pieces;
+            this.nodes = nodes;
+            makeRows(pieces.room());
         }
 
         private void makeRows(int room) {
@@ -521,20 +465,22 @@ public final class FaceMap {
         }
 
         void build() {
-            if (crossed.length < net.pieces.room()) {
-                makeRows(net.pieces.room());
+            if (crossed.length < pieces.room()) {
+                makeRows(pieces.room());
             }
+            begun = 0;
             crossedSize = 0;
-            for (int n = 0; n < net.nodes.size; n++) {
+            for (int n = 0; n < nodes.size; n++) {
                 passNode(n);
             }
         }
 
         private void passNode(int n) {
-            int first = countBelow(net.nodes.at[n]);
+            long place = nodes.at[n];
+            int first = countBelow(place);
             below[n] = first > 0 ? crossed[first - 1] : -1;
-            int ups = gatherUps(n);
-            int downs = countEnding(first, net.nodes.at[n]);
+            int ups = gatherUps(place);
+            int downs = countEnding(first, place);
             for (int i = 0; i < downs; i++) {
                 around[ups + i] = Way.down(crossed[first + downs - 1 - i]);
             }
@@ -549,7 +495,7 @@ public final class FaceMap {
             while (from < to) {
                 int mid = (from + to) >>> 1;
                 int p = crossed[mid];
-                if (Place.side(net.pieces.low[p], net.pieces.high[p], place) > 0) {
+                if (Place.side(pieces.low[p], pieces.high[p], place) > 0) {
                     from = mid + 1;
                 } else {
                     to = mid;
@@ -561,20 +507,21 @@ public final class FaceMap {
         /** How many of the crossed pieces end at a place; they lie side by side from the first one on. */
         private int countEnding(int first, long place) {
             int i = first;
-            while (i < crossedSize && net.pieces.high[crossed[i]] == place) {
+            while (i < crossedSize && pieces.high[crossed[i]] == place) {
                 i++;
             }
             return i - first;
         }
 
-        /** Puts the ways from a node to greater ones into around, the lowest first: how many there are. */
-        private int gatherUps(int n) {
+        /** Puts the ways from the node at hand to greater ones into around, the lowest first: how many there are. */
+        private int gatherUps(long place) {
             int size = 0;
-            for (int p = net.firstUp[n]; p < net.firstUp[n + 1]; p++) {
-                int i = countUnder(p, size);
+            while (begun < pieces.size && pieces.low[begun] == place) {
+                int i = countUnder(begun, size);
                 System.arraycopy(around, i, around, i + 1, size - i);
-                around[i] = Way.up(p);
+                around[i] = Way.up(begun);
                 size++;
+                begun++;
             }
             return size;
         }
@@ -586,7 +533,7 @@ public final class FaceMap {
             while (from < to) {
                 int mid = (from + to) >>> 1;
                 int q = Way.pieceOf(around[mid]);
-                if (Place.side(net.pieces.low[q], net.pieces.high[q], net.pieces.high[p]) > 0) {
+                if (Place.side(pieces.low[q], pieces.high[q], pieces.high[p]) > 0) {
                     from = mid + 1;
                 } else {
                     to = mid;
@@ -604,12 +551,12 @@ public final class FaceMap {
         }
 
         /** The pieces that end at the node at hand give way to those that begin there. */
-        private void exchange(int first, int ended, int begun) {
-            System.arraycopy(crossed, first + ended, crossed, first + begun, crossedSize - first - ended);
-            for (int i = 0; i < begun; i++) {
+        private void exchange(int first, int downs, int ups) {
+            System.arraycopy(crossed, first + downs, crossed, first + ups, crossedSize - first - downs);
+            for (int i = 0; i < ups; i++) {
                 crossed[first + i] = Way.pieceOf(around[i]);
             }
-            crossedSize += begun - ended;
+            crossedSize += ups - downs;
         }
     }
 
@@ -618,7 +565,8 @@ public final class FaceMap {
         static final int OUTSIDE = 0;
         static final int NOT_YET = -1;
 
-        final Net net;
+        final Pieces pieces;
+        final Nodes nodes;
         final Sweep sweep;
         /** By way: the face to its left. */
         int[] leftOf;
@@ -630,10 +578,11 @@ public final class FaceMap {
         int size;
         int parts;
 
-        Faces(Net net, Sweep sweep) {
-            this.net = net;
+        Faces(Pieces pieces, Nodes nodes, Sweep sweep) {
+            this.pieces = pieces;
+            this.nodes = nodes;
             this.sweep = sweep;
-            makeRows(net.pieces.room());
+            makeRows(pieces.room());
             clear();
         }
 
@@ -666,35 +615,33 @@ public final class FaceMap {
         }
 
         void build() {
-            if (leftOf.length < 2 * net.pieces.room()) {
-                makeRows(net.pieces.room());
+            if (leftOf.length < 2 * pieces.room()) {
+                makeRows(pieces.room());
             }
             clear();
-            // Going through the ways from the least one on, a ring is met first at its least way: so faces come in the
-            // order of their keys, and what lies below the least node of a part has its face already.
-            for (int n = 0; n < net.nodes.size; n++) {
-                for (int i = net.firstDown[n]; i < net.firstDown[n + 1]; i++) {
-                    takeRing(n, Way.down(net.downs[i]));
-                }
-                for (int p = net.firstUp[n]; p < net.firstUp[n + 1]; p++) {
-                    takeRing(n, Way.up(p));
-                }
+            // The least way of a ring leaves its least node, so it is one up. Going through these from the least on, a
+            // ring is met first at its least way: so faces come in the order of their keys, and what lies below the
+            // least node of a part has its face already.
+            for (int p = 0; p < pieces.size; p++) {
+                takeRing(p);
             }
         }
 
-        /** Takes the ring that begins with a way from node n, if it is new. */
-        private void takeRing(int n, int way) {
+        /** Takes the ring that begins with the way up piece p, if it is new. */
+        private void takeRing(int p) {
+            int way = Way.up(p);
             if (leftOf[way] != NOT_YET) {
                 return;
             }
+            int from = nodes.rank(pieces.low[p]);
             long ringArea = areaOfRing(way);
             int f;
             if (ringArea > 0) {
-                f = addFace(n, net.to(way));
+                f = addFace(from, nodes.rank(pieces.high[p]));
             } else {
                 // No rim: this goes round a whole part from without, and each part has one such ring.
                 parts++;
-                f = above(sweep.below[n]);
+                f = above(sweep.below[from]);
             }
             rings[f]++;
             area[f] += ringArea;
@@ -704,9 +651,9 @@ public final class FaceMap {
         private long areaOfRing(int start) {
             long sum = 0;
             int way = start;
-            for (int i = 0; i < 2 * net.pieces.size; i++) {
+            for (int i = 0; i < 2 * pieces.size; i++) {
                 int p = Way.pieceOf(way);
-                long up = Place.area(net.pieces.low[p], net.pieces.high[p]);
+                long up = Place.area(pieces.low[p], pieces.high[p]);
                 sum += Way.isUp(way) ? up : -up;
                 way = sweep.next[way];
                 if (way == start) {
@@ -720,7 +667,7 @@ public final class FaceMap {
         private int markRing(int start, int f) {
             int marked = 0;
             int way = start;
-            while (marked < 2 * net.pieces.size && leftOf[way] == NOT_YET) {
+            while (marked < 2 * pieces.size && leftOf[way] == NOT_YET) {
                 leftOf[way] = f;
                 way = sweep.next[way];
                 marked++;
@@ -739,7 +686,7 @@ public final class FaceMap {
 
         int piecesBetween(int f, int g) {
             int found = 0;
-            for (int p = 0; p < net.pieces.size; p++) {
+            for (int p = 0; p < pieces.size; p++) {
                 int a = leftOf[Way.up(p)];
                 int b = leftOf[Way.down(p)];
                 if (a == f && b == g || a == g && b == f) {
