@@ -370,6 +370,11 @@ public final class BoundaryTest {
     due("an island with one of its own", m.face(4, 0), 2);
     due("what it has left", m.area2(4), 50 - 2);
     due("rings of the outside", m.face(0, 0), 1);
+    // The way up has 70, and the way back -70; then the other way round.
+    due("AREA2 of 0 is no rim", rows(row(5, -5, 9, 5)).count(2), 1);
+    due("AREA2 of 0 is no rim", rows(row(5, 5, 9, -5)).count(2), 1);
+    due("a tree is no rim", rows(row(5, -5, 9, 5, 12, -3), row(9, 5, 20, 20)).count(2), 1);
+    due("AREA2 of 1 is one", rows(row(5, -5, 6, -5, 6, -4, 5, -5)).count(2), 2);
     FaceMap outer = rows(square(0, 0, 2), square(5, 0, 2), row(9, 0, 9, 9));
     due("rings of the outside, no rim among them", outer.face(0, 0), 3);
   }
