@@ -3,8 +3,9 @@ import java.util.List;
 
 /**
  * The boundary cases of the document, sentence by sentence: too small, too large, empty, full, wrapping round, refused.
- * Each sentence that names one is quoted and has a method of its own, with answers worked out by hand. No object gets
- * more than 512 calls, but where 1500 pieces are wanted.
+ * Each sentence, or clause of one, that names such a case is quoted and has a method of its own, with answers worked out
+ * by hand, or compared with those of a second object. No object gets more than 512 calls, but where 1500 pieces are
+ * wanted.
  */
 public final class BoundaryTest {
   private static final int LEAST = -500000;
@@ -518,7 +519,7 @@ public final class BoundaryTest {
   }
 
   private static void joinRefusedChangesNothing() {
-    sentence("Promise 2: a join that is refused adds no piece");
+    sentence("Promise 2, not said but meant: a join that is refused changes nothing");
     int[][] refused = {{0, 0, MOST + 1, 0}, {3, 3, 3, 3}, {0, 0, 8, 0}, {8, 0, 0, 0}, {4, 4, 12, 4}, {4, 0, 4, 4}};
     int[] answer = {-1, -1, -3, -3, -2, -2};
     for (int i = 0; i < refused.length; i++) {
